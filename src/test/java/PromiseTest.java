@@ -34,6 +34,7 @@ public final class PromiseTest {
         takesAndGives();
         step();
         run();
+        runFull();
         runKinds();
         met();
         clear();
@@ -63,7 +64,7 @@ public final class PromiseTest {
     }
 
     private static boolean goesInto(int kind, int other) {
-        return GOES_INTO[kind].indexOf((char) ('0' + other)) >= 0;
+        return other < PLAIN && GOES_INTO[kind].indexOf((char) ('0' + other)) >= 0;
     }
 
     private static void newObject() {
@@ -322,20 +323,23 @@ public final class PromiseTest {
         gaugeDue(11, "2^63", x, DOUBLES, Long.MAX_VALUE);
     }
 
-    /** What the gauge has, set at each row of things: nothing, a number, a plain probe, a fine one, a line. */
+    /** All that a gauge can have, set at all rows: a number, a plain probe, a fine one, a line, nothing. */
     private static void setThings() {
-        int[][] want = {{1, 1, 1}, {KIND, KIND, KIND}, {1, KIND, KIND}, {1, 1, KIND}, {KIND, KIND, 1}};
-        int[] has = {NONE, INTS, PLAIN, FINE, LINES};
-        for (int what = 0; what < want.length; what++) {
-            for (int kind = PLAIN; kind <= LINES; kind++) {
+        for (int what = 0; what <= 11; what++) {
+            for (int kind = 0; kind <= LINES; kind++) {
                 ProbeRacks x = new ProbeRacks();
                 x.rack(0, kind, 2);
                 fill(x, what);
-                int due = want[what][kind - PLAIN];
-                due(11, "what " + what + " set at " + kind, x.set(0, 1), due);
-                due(11, "has()", x.has(), has[what]);
-                due(11, "get(0, 1)", x.get(0, 1), due == 1 ? has[what] : NONE);
-                due(11, "get(0, 0)", x.get(0, 0), NONE);
+                int has = x.has();
+                boolean can = maySet(what, kind);
+                due(11, "what " + what + " set at " + kind, x.set(0, 1), can ? 1 : KIND);
+                due(11, "has()", x.has(), has);
+                due(11, "get(0, 1)", x.get(0, 1), kind < PLAIN ? kind : can ? has : NONE);
+                due(11, "get(0, 0)", x.get(0, 0), kind < PLAIN ? kind : NONE);
+                fill(x, what);
+                int after = what == 11 && kind < PLAIN ? KIND : INDEX;
+                due(11, "what " + what + " set after the last of " + kind, x.set(0, 2), after);
+                due(11, "what " + what + " set ahead of the first of " + kind, x.set(0, -1), after);
             }
         }
         ProbeRacks x = new ProbeRacks();
@@ -347,15 +351,22 @@ public final class PromiseTest {
         due(11, "get(0, 0)", x.get(0, 0), NONE);
     }
 
+    private static boolean maySet(int what, int kind) {
+        if (what < PLAIN) {
+            return goesInto(what, kind);
+        }
+        return what == 11 ? kind >= PLAIN : what == kind || what == FINE && kind == PLAIN;
+    }
+
     private static void fill(ProbeRacks x, int what) {
-        if (what == 0) {
+        if (what < PLAIN) {
+            x.gauge(what, 3);
+        } else if (what == 11) {
             x.none();
-        } else if (what == 1) {
-            x.gauge(INTS, 3);
-        } else if (what == 4) {
+        } else if (what == LINES) {
             x.line(2);
         } else {
-            x.probe(what == 3);
+            x.probe(what == FINE);
         }
     }
 
@@ -697,6 +708,18 @@ public final class PromiseTest {
         due(21, "the steps stay", x.clear(), 4);
     }
 
+    private static void runFull() {
+        ProbeRacks x = new ProbeRacks();
+        for (int n = 0; n < 12; n++) {
+            x.step(0, n % 2, 0, 0, 0);
+        }
+        x.rack(1, BITS, 1);
+        due(21, "twelve steps", x.run(false), 6);
+        due(21, "met(10)", x.met(10), 1);
+        due(21, "met(11)", x.met(11), 0);
+        due(21, "faults(1)", x.faults(1), 6);
+    }
+
     private static void runKinds() {
         ProbeRacks x = roomOfLines();
         x.into(0, 1, 1, 12);
@@ -730,6 +753,10 @@ public final class PromiseTest {
         x.step(2, 4, 7, 0, 7);
         x.run(true);
         gaugeDue(21, "read as a double", x, DOUBLES, 1L << 24);
+        x.clear();
+        x.step(0, 1, 0, 0, 0);
+        x.run(true);
+        gaugeDue(21, "got", x, FINE, 1);
         x.clear();
         x.step(5, 0, 0, 4, 0);
         x.step(5, 1, 0, 5, 0);
