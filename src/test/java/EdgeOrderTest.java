@@ -49,18 +49,33 @@ public final class EdgeOrderTest extends Room {
             refused("nothing set at place " + i + " of a row", NONE, x -> x.set(ROW_OF_INTS, i), KIND);
             refused("nothing set at place " + i + " of a line", NONE, x -> x.set(A_LINE, i), KIND);
             refused("nothing set at place " + i + " of none", NONE, x -> x.set(NO_PLACES, i), KIND);
+            for (int kind = 0; kind < 8; kind++) {
+                int of = kind;
+                refused("nothing set at numbers of " + kind, () -> withNumbers(NONE, of), x -> x.set(NOTHING, i), KIND);
+            }
         }
     }
 
     @Sentence(of = 0, says = "INDEX; KIND: at a ROW of numbers (a LINE is of INTS) a PROBE, a LINE")
     static void setThingsAtNumbers() {
         for (int gauge : new int[] {PLAIN, FINE, LINES}) {
-            for (int rack : new int[] {ROW_OF_INTS, A_LINE}) {
-                refused("a thing set at a number", gauge, x -> x.set(rack, 0), KIND);
-                refused("a thing set below", gauge, x -> x.set(rack, -1), INDEX);
-                refused("a thing set above", gauge, x -> x.set(rack, 3), INDEX);
+            refused("a thing set at a line", gauge, x -> x.set(A_LINE, 0), KIND);
+            refused("a thing set below a line", gauge, x -> x.set(A_LINE, -1), INDEX);
+            refused("a thing set above a line", gauge, x -> x.set(A_LINE, 2), INDEX);
+            for (int kind = 0; kind < 8; kind++) {
+                int of = kind;
+                String what = "a thing set at numbers of " + kind;
+                refused(what, () -> withNumbers(gauge, of), x -> x.set(NOTHING, 15), KIND);
+                refused(what + ", below", () -> withNumbers(gauge, of), x -> x.set(NOTHING, -1), INDEX);
+                refused(what + ", above", () -> withNumbers(gauge, of), x -> x.set(NOTHING, 16), INDEX);
             }
         }
+    }
+
+    private static ProbeRacks withNumbers(int gauge, int kind) {
+        ProbeRacks x = full(gauge);
+        x.rack(NOTHING, kind, 16);
+        return x;
     }
 
     @Sentence(of = 0, says = "or a number whose KIND does not GO INTO the ROW's")

@@ -375,6 +375,29 @@ public final class EdgeTermsTest extends Room {
         gaugeDue("a long that is a double then", x, DOUBLES, TWO_53);
     }
 
+    @Sentence(of = 0, says = "It is of that KIND then.")
+    static void ofThatKindForGood() {
+        ProbeRacks x = new ProbeRacks();
+        rowOf(x, 0, LONGS, TWO_24 + 1);
+        x.rack(1, FLOATS, 3);
+        x.gauge(INTS, TWO_24 + 1);
+        x.set(1, 0);
+        x.write(1, 1, INTS);
+        x.step(5, 0, 0, 1, 2);
+        x.run(true);
+        x.rack(2, FLOATS, 1);
+        x.pass(0, 2, LONGS);
+        for (int i = 0; i < 3; i++) {
+            due("read(1, " + i + ", 7)", x.read(1, i, DOUBLES), 1);
+            gaugeDue("a whole number that was a float, as a double", x, DOUBLES, TWO_24);
+        }
+        due("read(2, 0, 7)", x.read(2, 0, DOUBLES), 1);
+        gaugeDue("a passed number that was a float, as a double", x, DOUBLES, TWO_24);
+        x.read(0, 0, FLOATS);
+        x.write(0, 0, LONGS);
+        placeDue(x, 0, 0, LONGS, TWO_24);
+    }
+
     private static void becomes(int kind, long v, int other) {
         ProbeRacks x = new ProbeRacks();
         x.gauge(other, v);
