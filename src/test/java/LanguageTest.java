@@ -34,7 +34,9 @@ public final class LanguageTest {
         constants();
         constructors();
         classesInside();
+        fieldTypes();
         words();
+        methodLengths();
         System.out.println("LanguageTest: " + wrong + " breaches");
         if (wrong != 0) {
             System.exit(1);
@@ -114,10 +116,50 @@ public final class LanguageTest {
         }
     }
 
-    private static void words() throws IOException {
+    private static void fieldTypes() {
+        for (Field f : ProbeRacks.class.getDeclaredFields()) {
+            Class<?> type = f.getType();
+            boolean number = type == int.class || type == int[].class;
+            check(!Modifier.isStatic(f.getModifiers()) || number, "rule 5: static: " + f);
+            checkType(f);
+        }
+        for (Class<?> c : ProbeRacks.class.getDeclaredClasses()) {
+            for (Field f : c.getDeclaredFields()) {
+                check(!Modifier.isStatic(f.getModifiers()), "rule 5: static: " + f);
+                checkType(f);
+            }
+        }
+    }
+
+    private static void checkType(Field f) {
+        Class<?> type = f.getType().isArray() ? f.getType().getComponentType() : f.getType();
+        check(type.isPrimitive() || type.getEnclosingClass() == ProbeRacks.class, "rule 3: type: " + f);
+    }
+
+    private static String codeWithoutComments() throws IOException {
         String text = Files.readString(Path.of("src/main/java/ProbeRacks.java"));
         check(text.chars().allMatch(c -> c < 128), "characters");
-        String code = text.replaceAll("(?s)/\\*.*?\\*/", "").replaceAll("//[^\n]*", "");
+        return text.replaceAll("(?s)/\\*.*?\\*/", "").replaceAll("//[^\n]*", "");
+    }
+
+    private static void methodLengths() throws IOException {
+        String[] lines = codeWithoutComments().split("\n");
+        int start = 0;
+        for (int i = 0; i < lines.length; i++) {
+            if (lines[i].matches(" {4}( {4})?(public|private) .*\\) \\{")) {
+                start = i;
+            } else if (start > 0 && lines[i].matches(" {4}( {4})?}")) {
+                boolean ends = lines[i].indexOf('}') == lines[start].indexOf('p');
+                check(!ends || i - start < 60, "rule 11: long: " + lines[start].strip());
+                start = ends ? 0 : start;
+            }
+        }
+    }
+
+    private static void words() throws IOException {
+        String code = codeWithoutComments();
+        check(!Pattern.compile("\\bnew \\w+\\([^)]*\\)\\s*\\{").matcher(code).find(), "rule 2: an anonymous class");
+        check(!Pattern.compile("\\bwhile\\b").matcher(code).find(), "rule 9: a loop without a counter of its own");
         for (String word : RULED_OUT) {
             boolean named = Character.isLetter(word.charAt(0));
             Matcher m = Pattern.compile(named ? "\\b\\w*" + word + "\\b" : word).matcher(code);
